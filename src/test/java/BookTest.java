@@ -43,6 +43,7 @@ public final class BookTest {
         fine("", 0);
         fine(" \n ", 0);
         fine("rank\na2345678\n;", 0);
+        fine("rank abcdefgh; rank ijklmnop; rank qrstuvwx; rank yz; rank z0123456; rank z789;", 0);
         faulty("rank ^a23456789;", 1);
         faulty("rank ^A;", 1);
         faulty("rank a^A;", 1);

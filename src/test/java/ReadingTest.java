@@ -180,6 +180,22 @@ public final class ReadingTest {
         Check.dueWords("read(one less)", x, Check.repeat("6 ", 22) + "-2");
         products();
         nothingTimesMany();
+        theGreatest();
+    }
+
+    /** Of kind x, n times "a" have 8 times as many readings as n - 1 times, and 7: 8 to the n less 1. */
+    private static void theGreatest() {
+        String book = "rank r; kind k; kind x; kind y;" + Check.repeat("word r right x:\"a\"_ x;", 8)
+            + Check.repeat("word r right x:\"a\"_ y;", 7) + "word r right y:\"a\"_ y; word r y:\"z\"; word r:\"[\"_ x\"]\";";
+        MixfixBench x = Check.bench(book, "[ " + Check.repeat("a ", 21) + "z ]");
+        Check.due("count: of kind x and y", x.count(1, 23), -2);
+        Check.due("count: the greatest long", x.count(0, 24), Long.MAX_VALUE);
+        Check.due("quarrel", x.quarrel(), 2102);
+        Check.due("read", x.read(Long.MAX_VALUE), -1);
+        Check.due("read", x.read(Long.MAX_VALUE - 1), 23);
+        Check.dueWords("the last one", x, "17 14 " + Check.repeat("15 ", 20) + "16");
+        Check.due("read", x.read(Long.MAX_VALUE - 8), 23);
+        Check.dueWords("seven before it", x, "17 7 14 " + Check.repeat("15 ", 19) + "16");
     }
 
     private static void products() {
@@ -277,6 +293,7 @@ public final class ReadingTest {
         Check.due("count(0, 1)", x.count(0, 1), 2);
         Check.due("count(-1, 1)", x.count(-1, 1), 0);
         Check.due("count(0, 2)", x.count(0, 2), 0);
+        Check.due("count(0, 0)", x.count(0, 0), 0);
         Check.due("count(1, 1)", x.count(1, 1), 0);
         Check.due("count(1, 0)", x.count(1, 0), 0);
         Check.due("count(extremes)", x.count(Integer.MIN_VALUE, Integer.MAX_VALUE), 0);
