@@ -16,27 +16,12 @@ public final class BookTest {
         Check.finish("BookTest");
     }
 
-    /** The text is a book of so many words. */
     private static void fine(String text, int words) {
-        MixfixBench x = new MixfixBench();
-        Check.due("book: " + text, Check.book(x, text), words);
-        Check.due("fault(0) of: " + text, x.fault(0), 0);
-        Check.due("fault(1) of: " + text, x.fault(1), -1);
-        Check.due("about(5)", x.about(5), 0);
+        Check.fine(text, words);
     }
 
-    /** The text, a ^ being taken out of it, has this fault at the place of the ^. */
     private static void faulty(String marked, int fault) {
-        int place = marked.indexOf('^');
-        String text = marked.substring(0, place) + marked.substring(place + 1);
-        MixfixBench x = new MixfixBench();
-        Check.due("book: " + marked, Check.book(x, text), -1);
-        Check.due("fault(0) of: " + marked, x.fault(0), fault);
-        Check.due("fault(1) of: " + marked, x.fault(1), place);
-        Check.due("fault(2)", x.fault(2), -1);
-        Check.due("fault(-1)", x.fault(-1), -1);
-        Check.due("about(5)", x.about(5), 0);
-        Check.due("about(0)", x.about(0), 0);
+        Check.faulty(marked, fault);
     }
 
     private static void tokens() {
@@ -147,23 +132,15 @@ public final class BookTest {
         faulty(R + "word r: \"a\" ^@1;", 2);
     }
 
-    private static String many(String line, int times) {
-        StringBuilder text = new StringBuilder();
-        for (int n = 0; n < times; n++) {
-            text.append(line.replace("#", "" + (char) ('a' + n)));
-        }
-        return text.toString();
-    }
-
     private static void limits() {
-        fine(many("rank #;", 12), 0);
-        faulty(many("rank #;", 12) + "^rank", 2);
-        faulty(many("rank #;", 12) + "^rank a;", 2);
-        fine(many("kind #x;", 10), 0);
-        faulty(many("kind #x;", 10) + "^kind ax;", 2);
-        fine("rank r;" + many("word r:\"x\";", 30), 30);
-        faulty("rank r;" + many("word r:\"x\";", 30) + "^word 5", 2);
-        faulty("rank r;" + many("word r:\"x\";", 30) + "^words", 2);
+        fine(Check.many("rank #;", 12), 0);
+        faulty(Check.many("rank #;", 12) + "^rank", 2);
+        faulty(Check.many("rank #;", 12) + "^rank a;", 2);
+        fine(Check.many("kind #x;", 10), 0);
+        faulty(Check.many("kind #x;", 10) + "^kind ax;", 2);
+        fine("rank r;" + Check.many("word r:\"x\";", 30), 30);
+        faulty("rank r;" + Check.many("word r:\"x\";", 30) + "^word 5", 2);
+        faulty("rank r;" + Check.many("word r:\"x\";", 30) + "^words", 2);
         fine(R + "word r: \"a\" _ \"a\" _ \"a\" _ \"a\" _;", 1);
         fine(R + "word r: _ \"a\" _ \"a\" _ \"a\" _ \"a\";", 1);
         faulty(R + "word r: _ \"a\" _ \"a\" _ \"a\" _ \"a\" ^\"a\";", 2);
@@ -333,7 +310,7 @@ public final class BookTest {
         Check.due("tighter(-1, 0)", x.tighter(-1, 0), -1);
         Check.due("tighter(0, -1)", x.tighter(0, -1), -1);
         Check.due("tighter(0, 32)", x.tighter(0, 32), -1);
-        Check.book(x, many("rank #;", 12) + "tighter a l;");
+        Check.book(x, Check.many("rank #;", 12) + "tighter a l;");
         Check.due("tighter(0, 11)", x.tighter(0, 11), 1);
         Check.due("tighter(0, 1): nothing stays of the old book", x.tighter(0, 1), 0);
         Check.due("tighter(11, 0)", x.tighter(11, 0), 0);
@@ -352,7 +329,7 @@ public final class BookTest {
         Check.due("under(0, 7)", x.under(0, 7), -1);
         Check.due("under(-1, 0)", x.under(-1, 0), -1);
         Check.due("under(0, -1)", x.under(0, -1), -1);
-        Check.book(x, many("kind #x;", 10));
+        Check.book(x, Check.many("kind #x;", 10));
         Check.due("about(1)", x.about(1), 11);
         Check.due("under(10, 0)", x.under(10, 0), 1);
         Check.due("under(2, 1)", x.under(2, 1), 0);

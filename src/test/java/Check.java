@@ -58,6 +58,87 @@ final class Check {
         return bench;
     }
 
+    /** The text is a book of so many words, without a fault. */
+    static void fine(String text, int words) {
+        MixfixBench x = new MixfixBench();
+        due("book: " + text, book(x, text), words);
+        due("fault(0) of: " + text, x.fault(0), 0);
+        due("fault(1) of: " + text, x.fault(1), -1);
+        due("about(5)", x.about(5), 0);
+    }
+
+    /** The text, a ^ being taken out of it, has this fault at the place of the ^. */
+    static void faulty(String marked, int fault) {
+        int place = marked.indexOf('^');
+        String text = marked.substring(0, place) + marked.substring(place + 1);
+        MixfixBench x = new MixfixBench();
+        due("book: " + marked, book(x, text), -1);
+        due("fault(0) of: " + marked, x.fault(0), fault);
+        due("fault(1) of: " + marked, x.fault(1), place);
+        due("fault(2)", x.fault(2), -1);
+        due("fault(-1)", x.fault(-1), -1);
+        due("about(5)", x.about(5), 0);
+        due("about(0)", x.about(0), 0);
+    }
+
+    /** The line so many times, a # in it being a, b, c and on. */
+    static String many(String line, int times) {
+        StringBuilder text = new StringBuilder();
+        for (int n = 0; n < times; n++) {
+            text.append(line.replace("#", "" + (char) ('a' + n)));
+        }
+        return text.toString();
+    }
+
+    /** All that the bench tells of itself but fault and tape; some eighty calls for a small book. */
+    static String picture(MixfixBench x) {
+        StringBuilder text = new StringBuilder("about");
+        for (int what = 0; what < 5; what++) {
+            text.append(' ').append(x.about(what));
+        }
+        for (int w = 0; w < x.about(2); w++) {
+            text.append(" word ").append(w);
+            for (int what = 0; what < 7; what++) {
+                text.append(' ').append(x.word(w, what));
+            }
+        }
+        pairs(x, text);
+        text.append(" sure ").append(x.sure()).append(" quarrel ").append(x.quarrel()).append(" nodes");
+        for (int n = 0; n < x.about(4); n++) {
+            for (int what = 0; what < 5; what++) {
+                text.append(' ').append(x.node(n, what));
+            }
+        }
+        return text.append(" worked ").append(x.worked(0)).append(' ').append(x.worked(1)).toString();
+    }
+
+    private static void pairs(MixfixBench x, StringBuilder text) {
+        int ranks = x.about(0);
+        int kinds = x.about(1);
+        int tokens = x.about(3);
+        text.append(" tighter");
+        for (int pair = 0; pair < ranks * ranks; pair++) {
+            text.append(' ').append(x.tighter(pair / ranks, pair % ranks));
+        }
+        text.append(" under");
+        for (int pair = 0; pair < kinds * kinds; pair++) {
+            text.append(' ').append(x.under(pair / kinds, pair % kinds));
+        }
+        text.append(" count");
+        for (int first = 0; first < tokens; first++) {
+            for (int end = first + 1; end <= tokens; end++) {
+                text.append(' ').append(x.count(first, end));
+            }
+        }
+    }
+
+    static void dueText(String call, String got, String want) {
+        if (!got.equals(want)) {
+            wrong++;
+            System.out.println(call + ": it is " + got + ", due is " + want);
+        }
+    }
+
     /** The nodes' words of the reading, as a text. */
     static String words(MixfixBench bench) {
         StringBuilder text = new StringBuilder();
@@ -68,11 +149,7 @@ final class Check {
     }
 
     static void dueWords(String call, MixfixBench bench, String want) {
-        String got = words(bench);
-        if (!got.equals(want)) {
-            wrong++;
-            System.out.println(call + ": the nodes are " + got + ", due are " + want);
-        }
+        dueText("the nodes after " + call, words(bench), want);
     }
 
     static String repeat(String text, int times) {
