@@ -154,7 +154,13 @@ public final class ReadingBoundsTest {
                 Check.due("count: " + kind + " in " + hole, x.count(0, 4), kind >= hole ? 1 : 0);
             }
         }
+        // ten kinds, and all: what is of kind all stays so in brackets
         dueCount(book + "word r: \"is\" _;", "is all", 1);
+        dueReadings(book + "word r: \"is\" _;", "((all))", "-3 -3 10");
+        dueReadings(book + "word r: \"is\" _;", "is ((all))", "11 -3 -3 10");
+        dueReadings(book + "word r: \"is\" _; word r: _ \"+\" _;", "(all) + (((all)))", "12 -3 10 -3 -3 -3 10");
+        dueCount(book.toString(), Check.repeat("(", 14) + "j" + Check.repeat(")", 14) + " 1", 0);
+        dueCount(book + "word r: \"is\" _;", "is " + Check.repeat("(", 14) + "all" + Check.repeat(")", 14), 1);
         dueCount(book + "word r: \"is\" _ all;", "is j", 1);
     }
 
@@ -545,6 +551,18 @@ public final class ReadingBoundsTest {
         Check.due("sentence", Check.sentence(x, "- 1"), 2);
         Check.due("count: by the new book", x.count(0, 2), 0);
         Check.due("count: by the new book", x.count(0, 1), 1);
+        // with fewer kinds: what was counted by kind is gone, too
+        String kinds = "rank r; kind k; kind l; kind m; word r m: \"x\"; word r l: \"y\"; word r k: \"z\"; word r: \"w\";";
+        for (String fewer : new String[] {"", "kind k;", "kind k; kind l;", "rank r; word r: \"v\";"}) {
+            Check.book(x, kinds);
+            Check.sentence(x, "(x) (y) (z) (w) 1");
+            Check.due("count by more kinds", x.count(0, 3) + x.count(3, 6) + x.count(6, 9) + x.count(9, 12) + x.count(12, 13), 5);
+            Check.book(x, fewer);
+            Check.sentence(x, "- - - - - - - - - - - - -");
+            Check.due("quarrel", x.quarrel(), -1);
+            Check.due("count by fewer kinds", x.count(0, 3) + x.count(3, 6) + x.count(6, 9) + x.count(9, 12) + x.count(12, 13), 0);
+            Check.due("read", x.read(0), -1);
+        }
         Check.book(x, "kind k;");
         Check.due("sentence", Check.sentence(x, "-"), 1);
         Check.due("count: the word is gone", x.count(0, 1), 0);
