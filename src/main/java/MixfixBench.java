@@ -143,10 +143,12 @@ public final class MixfixBench {
         if (i < 0 || j > tokens.count || i >= j) {
             return 0;
         }
+        chart.fill();
         return chart.readingsOf(i, j);
     }
 
     public int quarrel() {
+        chart.fill();
         for (int length = 1; length <= tokens.count; length++) {
             for (int first = 0; first + length <= tokens.count; first++) {
                 long readings = chart.readingsOf(first, first + length);
@@ -162,6 +164,7 @@ public final class MixfixBench {
         if (k < 0 || tokens.count == 0) {
             return NONE;
         }
+        chart.fill();
         long readings = chart.readingsOf(0, tokens.count);
         if (readings != MANY && k >= readings) {
             return NONE;
@@ -620,7 +623,7 @@ public final class MixfixBench {
                 blame(MISPLACED, colon);
             } else if (word.holes == word.size) {
                 refuse();
-            } else if (parseEndOfWord(word)) {
+            } else if (lexer.sort() == '=' ? parseSteps(word) : pass(';')) {
                 book.wordCount++;
             }
         }
@@ -662,16 +665,11 @@ public final class MixfixBench {
             return false;
         }
 
-        private boolean parseEndOfWord(Word word) {
-            if (lexer.sort() == ';') {
-                return pass(';');
-            }
-            return pass('=') && parseSteps(word);
-        }
-
+        /** Passes the = and what is behind it up to the end of the line; false if there is a fault. */
         private boolean parseSteps(Word word) {
             int pile = 0;
             word.steps = 0;
+            lexer.advance();
             for (int n = 0; n < MAX_STEPS && lexer.sort() != ';'; n++) {
                 pile = parseStep(word, pile);
                 if (pile == NONE) {
@@ -1049,7 +1047,7 @@ public final class MixfixBench {
             for (int shift = 56; shift >= 0; shift -= 8) {
                 int c = (int) (texts[token] >> shift & 255);
                 if (c != 0) {
-                    if (!isDigit(c)) {
+                    if (c < '0' || c > '9') {
                         return NONE;
                     }
                     value = value * 10 + c - '0';
@@ -1064,7 +1062,7 @@ public final class MixfixBench {
         }
     }
 
-    /** How many readings each stretch of the sentence has, counted when it is first asked. */
+    /** How many readings each stretch of the sentence has; it must be filled before it is asked. */
     private static final class Chart {
         private Book book;
         private final Sentence sentence;
@@ -1092,7 +1090,6 @@ public final class MixfixBench {
         }
 
         long readingsOf(int first, int end) {
-            fill();
             return ofAny[rowOf(first, end)];
         }
 
@@ -1138,7 +1135,7 @@ public final class MixfixBench {
         }
 
         /** By end, then from the last first on: what a stretch needs is counted before it. */
-        private void fill() {
+        void fill() {
             if (filled) {
                 return;
             }
@@ -1310,7 +1307,7 @@ public final class MixfixBench {
             await(0, sentence.count, NONE, NONE);
             demand(-1, -1, k);
             for (int node = 0; node < MAX_TOKENS && waiting > 0; node++) {
-                place();
+                makeNode();
             }
         }
 
@@ -1334,7 +1331,7 @@ public final class MixfixBench {
         }
 
         /** Makes the node of the latest stretch that waits; what is in it waits then. */
-        private void place() {
+        private void makeNode() {
             waiting--;
             int top = waiting;
             int first = firsts[top];
@@ -1345,6 +1342,7 @@ public final class MixfixBench {
             }
             int node = reading.add(which, first, length, parents[top], holes[top]);
             if (which >= 0) {
+                chart.prepareTails(which, first, first + length);
                 fillWord(which, node, splitWord(which, first, first + length, numbers[top]));
             } else if (which == BRACKETS_NODE) {
                 int inner = kinds[top];
@@ -1371,10 +1369,10 @@ public final class MixfixBench {
             return chosen;
         }
 
-        /** Finds where the holes end; the number among the readings whose holes end there. */
+        /** Finds where the holes end, the word's tails being ready; the number among the readings
+            whose holes end there. */
         private long splitWord(int w, int first, int end, long number) {
             Word word = chart.book.words[w];
-            chart.prepareTails(w, first, end);
             long left = number;
             long before = 1;
             int place = first;

@@ -6,9 +6,13 @@ import java.lang.reflect.Modifier;
 import java.nio.file.Files;
 import java.nio.file.Path;
 import java.util.Arrays;
+import java.util.HashMap;
 import java.util.HashSet;
+import java.util.Map;
 import java.util.Set;
 import java.util.TreeSet;
+import java.util.regex.Matcher;
+import java.util.regex.Pattern;
 
 /** The face of the document, and the rules of ../shared/LANGUAGE.md that a look at the file can test. */
 public final class LanguageTest {
@@ -87,6 +91,7 @@ public final class LanguageTest {
             Check.due("the sign at " + at, c == '\n' || c >= 32 && c <= 126, true);
         }
         methods(code);
+        calls(code);
     }
 
     private static void methods(String code) {
@@ -97,5 +102,36 @@ public final class LanguageTest {
             boolean ends = line.equals("        }");
             Check.due("a method of " + length + " lines", ends && length > 60, false);
         }
+    }
+
+    /** Rules 8 and 11: calls go at most eight deep, and there is no recursion. Methods of one name count as one. */
+    private static void calls(String code) {
+        Map<String, Set<String>> called = new HashMap<>();
+        Set<String> within = new HashSet<>();
+        for (String line : code.split("\n")) {
+            Matcher head = Pattern.compile(" {4}( {4})?[\\w<][^=]*?\\b(\\w+)\\(.*\\) \\{").matcher(line);
+            if (head.matches()) {
+                within = called.computeIfAbsent(head.group(2), name -> new HashSet<>());
+            } else {
+                Matcher call = Pattern.compile("\\b(\\w+)\\(").matcher(line);
+                while (call.find()) {
+                    within.add(call.group(1));
+                }
+            }
+        }
+        Check.due("enough methods were found", called.size() > 80, true);
+        for (String method : called.keySet()) {
+            Check.due("calls from " + method + " go at most eight deep", depth(method, called, 0) <= 8, true);
+        }
+    }
+
+    private static int depth(String method, Map<String, Set<String>> called, int above) {
+        int most = 0;
+        for (String inner : called.get(method)) {
+            if (called.containsKey(inner) && above < 20) {
+                most = Math.max(most, depth(inner, called, above + 1));
+            }
+        }
+        return most + 1;
     }
 }
